@@ -239,8 +239,16 @@ public final class SaidRate {
         if (!isHouse(house) || !isIn(what, 0, 3)) {
             return BAD;
         }
-        int with = leaning(house, 1);
-        int mornings = with + leaning(house, -1);
+        int mornings = 0;
+        int with = 0;
+        int fear = 0;
+        for (int morning = 0; morning < MORNINGS; morning++) {
+            int side = outSign(house, morning);
+            int gains = desks.houseGain(house, morning);
+            mornings += side != 0 && gains != 0 ? 1 : 0;
+            with += side * gains > 0 ? 1 : 0;
+            fear += side < 0 && gains >= 0 ? 1 : 0;
+        }
         switch (what) {
             case 0:
                 return mornings;
@@ -249,7 +257,7 @@ public final class SaidRate {
             case 2:
                 return chance(mornings, with);
             default:
-                return fear(house);
+                return fear;
         }
     }
 
@@ -429,31 +437,11 @@ public final class SaidRate {
             if (side == 0) {
                 righted[house] = panel.heard(house, morning);
             } else {
+                // the span that the loans found last is this HOUSE's
                 righted[house] = side > 0 ? loans.highEnd() : loans.lowEnd();
             }
         }
         return rates.findOf(righted, morning, into);
-    }
-
-    /** On how many MORNINGS a HOUSE is OUT to its GAIN's side (sign 1), or to the other one (-1). */
-    private int leaning(int house, int sign) {
-        int mornings = 0;
-        for (int morning = 0; morning < MORNINGS; morning++) {
-            if (outSign(house, morning) * Integer.signum(desks.houseGain(house, morning)) == sign) {
-                mornings++;
-            }
-        }
-        return mornings;
-    }
-
-    private int fear(int house) {
-        int mornings = 0;
-        for (int morning = 0; morning < MORNINGS; morning++) {
-            if (outSign(house, morning) < 0 && desks.houseGain(house, morning) >= 0) {
-                mornings++;
-            }
-        }
-        return mornings;
     }
 
     private static int chance(int mornings, int with) {
@@ -784,13 +772,16 @@ public final class SaidRate {
             return true;
         }
 
-        /** MANY as bits, or NONE. */
+        /**
+         * MANY as bits, or NONE. Groups with SILENT HOUSES are not left out: what such a one moves, a lesser
+         * group without them moves too, and that comes ahead of it.
+         */
         int fewest(int morning, int way, int v) {
             int cut = book.inForce(morning, CUT);
             int found = NONE;
             int bits = HOUSES + 1;
             for (int group = 1; group < 1 << HOUSES; group++) {
-                boolean fewer = Integer.bitCount(group) < bits && haveSaid(group, morning);
+                boolean fewer = Integer.bitCount(group) < bits;
                 if (fewer && findMove(group, morning, way, cut, moved) && moved.isAtLeast(v)) {
                     found = group;
                     bits = Integer.bitCount(group);
@@ -842,15 +833,6 @@ public final class SaidRate {
 
         private static int endOf(int way) {
             return way == 0 ? 0 : TOP;
-        }
-
-        private boolean haveSaid(int group, int morning) {
-            for (int house = 0; house < HOUSES; house++) {
-                if ((group >> house & 1) == 1 && panel.heard(house, morning) == SILENT) {
-                    return false;
-                }
-            }
-            return true;
         }
     }
 
@@ -919,9 +901,10 @@ public final class SaidRate {
 
         int houseGain(int house, int morning) {
             int sum = 0;
-            for (int desk = 0; desk < opened; desk++) {
-                if (houses[desk] == house) {
-                    sum += deskGain(desk, morning);
+            for (int contract = 0; contract < signed; contract++) {
+                if (mornings[contract] == morning) {
+                    sum += houses[getters[contract]] == house ? sizes[contract] : 0;
+                    sum -= houses[givers[contract]] == house ? sizes[contract] : 0;
                 }
             }
             return sum;

@@ -194,6 +194,7 @@ public final class PromisesTest {
         SaidRate x = new SaidRate();
         due("type 0 bytes", x.type(99, 0), SaidRate.BAD);
         due("type 9 bytes", x.type(99, 9), SaidRate.BAD);
+        due("type 9 bytes that could stand", x.type(0x6363636363636363L, 9), SaidRate.BAD);
         due("type MIN bytes", x.type(99, MIN), SaidRate.BAD);
         due("byte 31", x.type(31, 1), SaidRate.BAD);
         due("byte 127", x.type(127, 1), SaidRate.BAD);
@@ -785,6 +786,12 @@ public final class PromisesTest {
             y.word(desk, desk + 1, 0, desk);
         }
         due("the longest chain", y.knew(0, 0, 999), 4095);
+        y.word(0, 1, 1, 998);
+        y.word(1, 2, 1, 999);
+        due("by 997", y.knew(0, 1, 997), 1);
+        due("by 998", y.knew(0, 1, 998), 3);
+        due("the last MINUTE", y.knew(0, 1, 999), 7);
+        due("the last MINUTE", y.way(0, 2, 1), 2);
     }
 
     private static void way() {
