@@ -30,7 +30,9 @@ public final class NeverThrowsTest {
     private static SaidRate filled(int fill) {
         SaidRate x = new SaidRate();
         for (int i = 0; i < fill * 30; i++) {
-            x.say(i % 8, i % 30, i * 37 % 1000);
+            for (int house = 0; house < 4 * fill; house++) {
+                x.say(house, i % 30, (i + house) * 37 % 1000);
+            }
             x.desk(i % 8);
             x.contract(i % 5, 1 + i % 7, i % 30, 1 + i % 99, i);
             x.lent(i % 8, i % 30, i * 53 % 1000);
