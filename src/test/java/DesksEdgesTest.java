@@ -19,6 +19,19 @@ public final class DesksEdgesTest {
                 Edges.due("all of one HOUSE", x.desk(7), i);
             }
         });
+        Edges.test(Edges.TERMS, "DESKS 0 .. 11, as they come, are of HOUSES", () -> {
+            SaidRate x = new SaidRate();
+            int[] houses = {7, 0, 7, 1, 6, 2, 5, 3, 4, 4, 0, 7};
+            for (int i = 0; i < 12; i++) {
+                Edges.due("DESK " + i, x.desk(houses[i]), i);
+            }
+            for (int a = 0; a < 12; a++) {
+                for (int b = 0; b < a; b++) {
+                    Edges.due("a WALL from " + a + " to " + b, x.wall(a, b, true), houses[a] == houses[b] ? 0 : BAD);
+                }
+            }
+            Edges.due("no DESK 12", x.desk(0), FULL);
+        });
         Edges.test(13, "BAD", () -> {
             Edges.range("house", 0, 7, BAD, (x, v) -> x.desk(v));
             Edges.refused("BAD ahead of FULL", BAD, Edges::full, x -> x.desk(8));
@@ -35,6 +48,17 @@ public final class DesksEdgesTest {
             for (int i = 0; i < 24; i++) {
                 Edges.due("alike, within a HOUSE", x.contract(0, 1, 0, 1, 0), i);
             }
+        });
+        Edges.test(Edges.TERMS, "CONTRACTS 0 .. 23, as they come: DESK a gets from another one, b", () -> {
+            SaidRate x = Edges.twelveDesks();
+            for (int i = 0; i < 24; i++) {
+                Edges.due("CONTRACT " + i, x.contract(i % 12, (i + 1) % 12, i, 99 - i, i), i);
+            }
+            for (int i = 0; i < 24; i++) {
+                Edges.due("the one that gets by " + i, x.gain(i % 12, i, 0), 99 - i);
+                Edges.due("the one that gives by " + i, x.gain((i + 1) % 12, i, 0), i - 99);
+            }
+            Edges.due("no CONTRACT 24", x.contract(0, 1, 0, 1, 0), FULL);
         });
         Edges.test(14, "BAD: also one DESK", () -> {
             for (int i = 0; i < 11; i++) {
@@ -136,6 +160,11 @@ public final class DesksEdgesTest {
             Edges.say(x, 0, 500, 500);
             Edges.dueFraction("no RATE", (y, what) -> y.paid(0, 0, what), x, 0, 1);
             Edges.dueFraction("no RATE, from whom", (y, what) -> y.paid(1, 0, what), x, 0, 1);
+            Edges.say(x, 1, 0, 3, 4, 9);
+            Edges.dueFraction("a RATE of another MORNING", (y, what) -> y.rate(1, what), x, 7, 2);
+            Edges.due("no RATE, behind another one, above", x.paid(0, 0, 0), 0);
+            x.rate(1, 0);
+            Edges.due("no RATE, behind another one, below", x.paid(0, 0, 1), 1);
         });
         Edges.test(16, "BAD", () -> {
             Edges.range("desk, above", 0, 10, Edges.BAD_FRACTION, (x, v) -> x.paid(v, 0, 0));

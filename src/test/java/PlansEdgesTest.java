@@ -64,6 +64,8 @@ public final class PlansEdgesTest {
         Edges.test(Edges.TERMS, "the greatest MOVE (down or up) of any g HOUSES", () -> {
             duePlan("up is greater", Edges.saying(0, 100, 100, 100), 2, first, 0, 1798, 3);
             duePlan("down is greater", Edges.saying(0, 900, 900, 900), 2, first, 0, 600, 1);
+            duePlan("the highest down", Edges.saying(0, 500, 900, 999, 900), 1, first, 1, 200, 1);
+            duePlan("the lowest up", Edges.saying(0, 499, 99, 0, 99), 1, first, 1, 200, 1);
             duePlan("down from 0 and up", Edges.saying(0, 0, 0, 0), 4, first, 0, 999, 1);
             duePlan("more than have SAID", Edges.saying(0, 500, -1, -1, 500, 500), 4, first, 0, 500, 1);
             SaidRate one = Edges.ruled("l1");
@@ -103,6 +105,13 @@ public final class PlansEdgesTest {
             Edges.due("LEAST 8, seven have SAID", eight.best(1, 0, 0), NONE);
             eight.say(7, 0, 5);
             duePlan("LEAST 8, all have SAID", eight, 1, first, 1, 0, 1);
+        });
+        Edges.test(Edges.TERMS, "that of 0 .. 3 by which", () -> {
+            duePlan("0", Edges.saying(0, 100, 100, 100), 2, first, 0, 1798, 3);
+            SaidRate x = Edges.saying(0, 500, 500, 500, 500, 500, 500, 500, 500);
+            for (int g = 1; g <= 3; g++) {
+                duePlan("" + g, x, g, first, g, 0, 1);
+            }
         });
         Edges.test(Edges.TERMS, "a CUT by which none has one is left out", () -> {
             duePlan("CUTS 2 and 3 of four", Edges.saying(0, 500, 500, 500, 500), 2, first, 0, 250, 1);

@@ -92,6 +92,25 @@ public final class SayingEdgesTest {
             Edges.due("the one beside it", x.said(6, 29), -1);
             Edges.due("the MORNING ahead", x.said(7, 28), -1);
         });
+        Edges.test(Edges.TERMS, "HOUSES 0 .. 7, MORNINGS 0 .. 29", () -> {
+            SaidRate x = new SaidRate();
+            for (int i = 0; i < 240; i++) {
+                x.say(i % 8, i / 8, 999 - i);
+            }
+            for (int i = 0; i < 240; i++) {
+                Edges.due("each has its own", x.said(i % 8, i / 8), 999 - i);
+            }
+        });
+        Edges.test(Edges.TERMS, "each HOUSE has SAID (0 .. 999, in hundredths)", () -> {
+            SaidRate x = new SaidRate();
+            for (int house = 0; house < 8; house++) {
+                Edges.due("the least", x.say(house, 0, 0), -1);
+                Edges.due("one more than the greatest", x.say(house, 0, 1000), -11);
+                Edges.due("the greatest", x.say(house, 0, 999), 0);
+                Edges.due("one less than SILENT", x.say(house, 0, -2), -11);
+                Edges.due("SILENT", x.say(house, 0, -1), 999);
+            }
+        });
         Edges.test(2, "BAD less 10 (-11)", () -> {
             Edges.range("house", 0, 7, -11, (x, v) -> x.say(v, 0, 5));
             Edges.range("morning", 0, 29, -11, (x, v) -> x.say(0, v, 5));
@@ -302,6 +321,16 @@ public final class SayingEdgesTest {
             Edges.due("what comes behind it", x.type('7', 1), 2);
             Edges.due("takes nothing from it", x.rules(0), 0);
             Edges.due("takes nothing from it", x.rule(0, 0) * 10000 + x.rule(0, 1) * 1000 + x.rule(0, 2), 13007);
+        });
+        Edges.test(Edges.TERMS, "by EDITIONS 0 .. 3, TEXTS, as they come", () -> {
+            SaidRate x = new SaidRate();
+            for (int i = 0; i < 4; i++) {
+                Edges.due("EDITION " + i, Edges.edition(x, "c" + (3 - i), 10 * i - i), i);
+            }
+            for (int morning = 0; morning < 30; morning++) {
+                Edges.due("CUT on " + morning, x.rule(morning, 0), 3 - Math.min(3, morning / 9));
+            }
+            Edges.due("no EDITION 4", Edges.edition(x, "c0", 29), FULL);
         });
         Edges.test(Edges.TERMS, "each in force from a MORNING (no less than that of the one ahead)", () -> {
             SaidRate x = new SaidRate();

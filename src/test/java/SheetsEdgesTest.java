@@ -180,6 +180,14 @@ public final class SheetsEdgesTest {
             Edges.due("the LANE it had", x.item(0, 0, 0, 1), CAST);
             Edges.due("the LANE it has", x.item(0, 1, 0, 1), 1);
         });
+        Edges.test(Edges.TERMS, "CAST -12 (of SHEETS another LANE)", () -> {
+            for (int pair = 0; pair < 9; pair++) {
+                SaidRate x = new SaidRate();
+                x.sheet(0, pair / 3, 16);
+                Edges.due("item, LANE " + pair / 3 + " as " + pair % 3, x.item(0, pair % 3, 0, 1), pair / 3 == pair % 3 ? 1 : -12);
+                Edges.due("all, LANE " + pair / 3 + " as " + pair % 3, x.all(0, 0, pair % 3, 0), pair / 3 == pair % 3 ? 8 : -12);
+            }
+        });
         Edges.test(40, "INDEX", () -> {
             Edges.range("i, of 16", 0, 15, INDEX, (x, v) -> x.item(0, 0, v, 1));
             Edges.range("i, of 8", 0, 7, INDEX, (x, v) -> x.item(3, 0, v, 1));

@@ -24,6 +24,17 @@ public final class TruthEdgesTest {
                 Edges.due("alike", x.lent(7, 29, 999), i);
             }
         });
+        Edges.test(Edges.TERMS, "LENT rows 0 .. 59, as they come", () -> {
+            SaidRate x = new SaidRate();
+            for (int i = 0; i < 60; i++) {
+                Edges.due("row " + i, x.lent(i / 30, i % 30, 900 - i), i);
+            }
+            for (int i = 0; i < 60; i++) {
+                Edges.due("low end by row " + i, x.truth(i / 30, i % 30, 0), 900 - i);
+                Edges.due("high end by row " + i, x.truth(i / 30, i % 30, 1), 900 - i);
+            }
+            Edges.due("no row 60", x.lent(0, 0, 0), FULL);
+        });
         Edges.test(19, "BAD", () -> {
             Edges.range("house", 0, 7, BAD, (x, v) -> x.lent(v, 0, 0));
             Edges.range("morning", 0, 29, BAD, (x, v) -> x.lent(0, v, 0));
@@ -65,6 +76,20 @@ public final class TruthEdgesTest {
             x.lent(2, 0, 100);
             x.lent(3, 1, 900);
             dueTrue("of another HOUSE, of another MORNING", x, 3, 500, 500);
+        });
+        Edges.test(Edges.TERMS, "without such: that of all LENT then, SPREAD more to both sides", () -> {
+            SaidRate x = lending(500);
+            x.lent(7, 0, 700);
+            x.lent(0, 1, 100);
+            dueTrue("LENT by two others", x, 0, 480, 720);
+            x.lent(0, 0, 600);
+            dueTrue("LENT by itself: no SPREAD", x, 0, 600, 600);
+            SaidRate y = new SaidRate();
+            Edges.edition(y, "s0", 1);
+            y.lent(3, 0, 500);
+            y.lent(3, 1, 500);
+            dueTrue("SPREAD of the MORNING", y, 0, 480, 520);
+            Edges.due("SPREAD of the MORNING behind it", y.truth(0, 1, 0), 500);
         });
         Edges.test(Edges.TERMS, "SPREAD more to both sides (held to 0 .. 999)", () -> {
             dueTrue("just 0", lending(20), 0, 0, 40);
@@ -187,6 +212,11 @@ public final class TruthEdgesTest {
             x.contract(0, 1, 1, 99, 0);
             Edges.say(x, 1, 5, 5, 5);
             Edges.dueFraction("none LENT", (y, what) -> y.lost(0, 1, what), x, 0, 1);
+            Edges.say(x, 2, 0, 3, 4, 9);
+            Edges.dueFraction("a RATE of another MORNING", (y, what) -> y.rate(2, what), x, 7, 2);
+            Edges.due("no RATE, behind another one, above", x.lost(0, 0, 0), 0);
+            x.rate(2, 0);
+            Edges.due("no RATE, behind another one, below", x.lost(0, 0, 1), 1);
         });
         Edges.test(Edges.TERMS, "below above 0, in lowest terms", () -> {
             SaidRate x = Edges.withDesks(0, 1);
@@ -320,6 +350,19 @@ public final class TruthEdgesTest {
             for (int i = 0; i < 20; i++) {
                 Edges.due("alike", x.run(29, 999), i);
             }
+        });
+        Edges.test(Edges.TERMS, "RUNS 0 .. 19, as they come", () -> {
+            SaidRate x = new SaidRate();
+            for (int i = 0; i < 20; i++) {
+                x.lent(0, i, 500);
+                x.say(1, i, 900 + i);
+                Edges.due("RUN " + i, x.run(i, i % 2 == 0 ? 500 : 900 + i), i);
+            }
+            for (int i = 0; i < 20; i++) {
+                Edges.due("untrue(" + i + ")", x.untrue(i), i % 2);
+                Edges.due("backed(" + i + ")", x.backed(i), i % 2 * 2);
+            }
+            Edges.due("no RUN 20", x.run(0, 0), FULL);
         });
         Edges.test(25, "BAD", () -> {
             Edges.range("morning", 0, 29, BAD, (x, v) -> x.run(v, 0));

@@ -22,6 +22,18 @@ public final class WordsEdgesTest {
                 Edges.due("alike", x.word(0, 1, 29, 999), i);
             }
         });
+        Edges.test(Edges.TERMS, "WORDS 0 .. 39, as they come: from a DESK to another, on a MORNING", () -> {
+            SaidRate x = Edges.twelveDesks();
+            for (int i = 0; i < 40; i++) {
+                Edges.due("WORD " + i, x.word(i % 12, (i + 5) % 12, i % 30, i), i);
+            }
+            for (int i = 30; i < 40; i++) {
+                Edges.due("told by WORD " + i, x.way(i % 12, (i + 5) % 12, i % 30), 1);
+                Edges.due("none back", x.way((i + 5) % 12, i % 12, i % 30), NONE);
+                Edges.due("told by the one of that MORNING ahead", x.way((i - 30) % 12, (i - 25) % 12, i % 30), 1);
+            }
+            Edges.due("no WORD 40", x.word(0, 1, 0, 0), FULL);
+        });
         Edges.test(28, "BAD: also one DESK", () -> {
             for (int i = 0; i < 11; i++) {
                 int desk = i;
@@ -93,6 +105,18 @@ public final class WordsEdgesTest {
             Edges.due("the MORNING ahead", x.crossed(28), 0);
             x.wall(1, 0, false);
             Edges.due("the WALL is away", x.crossed(29), 0);
+        });
+        Edges.test(Edges.TERMS, "CROSSED are WALLS by WORDS between such.", () -> {
+            SaidRate x = Edges.withDesks(0, 0, 0, 1);
+            x.wall(0, 1, true);
+            x.word(0, 2, 0, 0);
+            x.word(2, 1, 0, 1);
+            x.word(0, 3, 0, 2);
+            x.word(3, 1, 0, 3);
+            Edges.due("round the WALL", x.crossed(0), 0);
+            x.word(1, 0, 0, 0);
+            Edges.due("through it", x.crossed(0), 1);
+            Edges.due("a WALL holds no WORD back", x.way(1, 0, 0), 1);
         });
         Edges.test(30, "BAD", () -> Edges.range("morning", 0, 29, BAD, (x, v) -> x.crossed(v)));
     }
