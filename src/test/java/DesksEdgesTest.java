@@ -114,6 +114,16 @@ public final class DesksEdgesTest {
             x.contract(1, 0, 0, 1, 0);
             Edges.due("and one more", x.gain(0, 0, 0), -1);
         });
+        Edges.test(Edges.TERMS, "GAIN of a DESK on a MORNING", () -> {
+            SaidRate x = Edges.withDesks(0, 1);
+            x.contract(0, 1, 0, 1, 0);
+            x.contract(1, 0, 29, 2, 0);
+            Edges.due("the first MORNING", x.gain(0, 0, 0), 1);
+            Edges.due("the one behind it", x.gain(0, 1, 0), 0);
+            Edges.due("the last MORNING", x.gain(0, 29, 0), -2);
+            Edges.due("the one ahead of it", x.gain(0, 28, 0), 0);
+            Edges.due("without a RATE too", x.rate(0, 0), Edges.NO_FRACTION);
+        });
         Edges.test(15, "BAD less 10000 (-10001)", () -> {
             Edges.range("desk", 0, 10, -10001, (x, v) -> x.gain(v, 0, 0));
             Edges.range("morning", 0, 29, -10001, (x, v) -> x.gain(0, v, 0));
@@ -141,6 +151,11 @@ public final class DesksEdgesTest {
             x.contract(0, 1, 0, 99, 999);
             Edges.dueFraction("a RATE of 0", (y, what) -> y.paid(0, 0, what), x, -98901, 1);
             Edges.dueFraction("a RATE of 0, from whom", (y, what) -> y.paid(1, 0, what), x, 98901, 1);
+            for (int i = 1; i < 24; i++) {
+                x.contract(0, 1, 0, 99, 999);
+            }
+            Edges.dueFraction("the least that all 24 give", (y, what) -> y.paid(0, 0, what), x, -2373624, 1);
+            x = Edges.withDesks(0, 1);
             x.contract(0, 1, 1, 50, 500);
             Edges.say(x, 1, 500, 500, 500);
             Edges.dueFraction("a RATE that is the STRIKE", (y, what) -> y.paid(0, 1, what), x, 0, 1);
@@ -153,6 +168,19 @@ public final class DesksEdgesTest {
             Edges.dueFraction("4 of 6, given", (y, what) -> y.paid(1, 0, what), x, -2, 3);
             x.contract(0, 1, 0, 8, 0);
             Edges.dueFraction("12 of 6", (y, what) -> y.paid(1, 0, what), x, -2, 1);
+        });
+        Edges.test(Edges.TERMS, "PAID is what it gets in all on that MORNING", () -> {
+            SaidRate x = Edges.withDesks(0, 1, 2);
+            Edges.say(x, 0, 500, 500, 500);
+            Edges.say(x, 1, 600, 600, 600);
+            x.contract(0, 1, 0, 1, 400);
+            x.contract(0, 2, 0, 2, 499);
+            x.contract(2, 0, 0, 3, 501);
+            x.contract(0, 1, 1, 99, 0);
+            Edges.dueFraction("100, 2 and 3", (y, what) -> y.paid(0, 0, what), x, 105, 1);
+            Edges.dueFraction("-2 and -3", (y, what) -> y.paid(2, 0, what), x, -5, 1);
+            Edges.dueFraction("the MORNING behind it", (y, what) -> y.paid(0, 1, what), x, 59400, 1);
+            Edges.dueFraction("none then", (y, what) -> y.paid(2, 1, what), x, 0, 1);
         });
         Edges.test(Edges.TERMS, "less what it gives (0 without a RATE)", () -> {
             SaidRate x = Edges.withDesks(0, 1);
@@ -196,6 +224,17 @@ public final class DesksEdgesTest {
             Edges.due("0 and -1", x.unlike(0), 0);
             x.contract(2, 0, 0, 1, 0);
             Edges.due("-1 and -1", x.unlike(0), 0);
+            SaidRate many = Edges.withDesks(3, 3, 3, 4, 4, 4, 5);
+            many.contract(0, 6, 0, 1, 0);
+            many.contract(1, 6, 0, 1, 0);
+            Edges.due("two above, none below", many.unlike(0), 0);
+            many.contract(6, 2, 0, 9, 0);
+            Edges.due("two above and one below", many.unlike(0), 8);
+            many.contract(6, 3, 0, 1, 0);
+            many.contract(6, 4, 0, 1, 0);
+            Edges.due("two below, none above", many.unlike(0), 8);
+            many.contract(5, 6, 0, 1, 0);
+            Edges.due("two below and one above", many.unlike(0), 24);
         });
         Edges.test(17, "BAD", () -> Edges.range("morning", 0, 29, BAD, (x, v) -> x.unlike(v)));
     }

@@ -48,8 +48,9 @@ public final class PlansEdgesTest {
     }
 
     private static void duePlan(String what, SaidRate x, int g, int[] mornings, int best, long above, long below) {
-        Edges.due(what + ", best", x.best(g, mornings[0], mornings[1]), best);
+        // worst() comes first, so that it can't lean on what best() found
         Edges.dueFraction(what + ", worst", (y, w) -> y.worst(g, mornings[0], mornings[1], w), x, above, below);
+        Edges.due(what + ", best", x.best(g, mornings[0], mornings[1]), best);
     }
 
     private static void groups() {
@@ -83,6 +84,15 @@ public final class PlansEdgesTest {
             duePlan("without the last", x, 2, new int[] {0, 28}, 0, 1798, 3);
             duePlan("without the first", x, 2, new int[] {1, 29}, 0, 600, 1);
             Edges.due("without both", x.best(2, 1, 28), NONE);
+        });
+        Edges.test(Edges.TERMS, "on any of these MORNINGS", () -> {
+            for (int worst = 0; worst < 30; worst++) {
+                SaidRate x = new SaidRate();
+                for (int morning = 0; morning < 30; morning++) {
+                    Edges.say(x, morning, morning == worst ? new int[] {900, 900, 900} : new int[] {500, 500, 500});
+                }
+                duePlan("the worst is " + worst, x, 2, new int[] {0, 29}, 0, 600, 1);
+            }
         });
         Edges.test(Edges.TERMS, "MORNINGS without a RATE then count for nothing", () -> {
             SaidRate x = Edges.saying(1, 500, 500, 500, 500, 500);

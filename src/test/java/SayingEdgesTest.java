@@ -16,6 +16,8 @@ public final class SayingEdgesTest {
         typeRefused();
         rules();
         rulesRefused();
+        rulesOfTheMorning();
+        leastOfTheMorning();
         clauses();
         faults();
         numbersBeyond();
@@ -354,6 +356,73 @@ public final class SayingEdgesTest {
         });
     }
 
+    /** Eight HOUSES SAID the same on MORNINGS 14 and 15; from 15 on CUT is 3, LEAST 8, SPREAD 0. */
+    private static SaidRate changing() {
+        SaidRate x = new SaidRate();
+        Edges.say(x, 14, 0, 10, 20, 30, 40, 50, 150, 900);
+        Edges.say(x, 15, 0, 10, 20, 30, 40, 50, 150, 900);
+        x.lent(7, 14, 100);
+        x.lent(7, 15, 100);
+        Edges.edition(x, "c3;l8;s0", 15);
+        return x;
+    }
+
+    private static void rulesOfTheMorning() {
+        Edges.test(Edges.TERMS, "each in force from a MORNING", () -> {
+            SaidRate x = changing();
+            Edges.dueFraction("rate ahead of it", (y, what) -> y.rate(14, what), x, 50, 1);
+            Edges.dueFraction("rate from it on", (y, what) -> y.rate(15, what), x, 35, 1);
+            Edges.due("thrown ahead of it", x.thrown(1, 14), 0);
+            Edges.due("thrown from it on", x.thrown(1, 15), -1);
+            Edges.due("thrown ahead of it, high", x.thrown(6, 14), 0);
+            Edges.due("thrown from it on, high", x.thrown(6, 15), 1);
+            Edges.dueFraction("reach ahead of it", (y, what) -> y.reach(3, 14, 1, what), x, 195, 1);
+            Edges.dueFraction("reach from it on", (y, what) -> y.reach(3, 15, 1, what), x, 45, 1);
+            Edges.dueFraction("move ahead of it", (y, what) -> y.move(8, 14, 1, what), x, 145, 1);
+            Edges.dueFraction("move from it on", (y, what) -> y.move(8, 15, 1, what), x, 10, 1);
+            Edges.dueFraction("move of all ahead of it", (y, what) -> y.move(255, 14, 1, what), x, 949, 1);
+            Edges.dueFraction("move of five ahead of it", (y, what) -> y.move(31, 14, 0, what), x, 50, 3);
+            Edges.dueFraction("move of five from it on", (y, what) -> y.move(31, 15, 0, what), x, 35, 1);
+            Edges.due("many ahead of it", x.many(14, 1, 12), 1);
+            Edges.due("many from it on", x.many(15, 1, 12), 3);
+            Edges.due("truth ahead of it", x.truth(0, 14, 0), 80);
+            Edges.due("truth from it on", x.truth(0, 15, 0), 100);
+            Edges.due("out ahead of it", x.out(6, 14) * 10 + x.out(5, 14), 9);
+            x.say(5, 14, 80);
+            x.say(5, 15, 80);
+            Edges.due("out ahead of it, within SPREAD", x.out(5, 14), 0);
+            Edges.due("out from it on, no SPREAD", x.out(5, 15), -1);
+        });
+    }
+
+    private static void leastOfTheMorning() {
+        Edges.test(Edges.TERMS, "if fewer than LEAST have SAID", () -> {
+            SaidRate x = changing();
+            x.say(7, 14, -1);
+            x.say(7, 15, -1);
+            x.desk(0);
+            x.desk(1);
+            x.contract(0, 1, 14, 2, 0);
+            x.contract(0, 1, 15, 2, 0);
+            Edges.dueFraction("rate, LEAST 3", (y, what) -> y.rate(14, what), x, 30, 1);
+            Edges.dueFraction("rate, LEAST 8", (y, what) -> y.rate(15, what), x, Edges.NO_FRACTION, Edges.NO_FRACTION);
+            Edges.due("thrown, LEAST 3", x.thrown(6, 14), 1);
+            Edges.due("thrown, LEAST 8", x.thrown(6, 15), -14);
+            Edges.dueFraction("reach, LEAST 8", (y, what) -> y.reach(6, 15, 1, what), x, Edges.NO_FRACTION, Edges.NO_FRACTION);
+            Edges.dueFraction("reach of the eighth", (y, what) -> y.reach(7, 15, 1, what), x, 35, 1);
+            Edges.dueFraction("move, LEAST 3", (y, what) -> y.move(127, 14, 0, what), x, 30, 1);
+            Edges.dueFraction("move, LEAST 8", (y, what) -> y.move(8, 15, 1, what), x, Edges.NO_FRACTION, Edges.NO_FRACTION);
+            Edges.due("many, LEAST 3", x.many(14, 0, 1), 2);
+            Edges.due("many, LEAST 8", x.many(15, 0, 1), NONE);
+            Edges.due("best, LEAST 8", x.best(1, 15, 15), NONE);
+            Edges.dueFraction("worst, LEAST 8", (y, what) -> y.worst(1, 15, 29, what), x, Edges.NO_FRACTION, Edges.NO_FRACTION);
+            Edges.dueFraction("right, LEAST 8", (y, what) -> y.right(15, what), x, Edges.NO_FRACTION, Edges.NO_FRACTION);
+            Edges.dueFraction("paid, LEAST 3", (y, what) -> y.paid(0, 14, what), x, 60, 1);
+            Edges.dueFraction("paid, LEAST 8", (y, what) -> y.paid(0, 15, what), x, 0, 1);
+            Edges.dueFraction("lost, LEAST 8", (y, what) -> y.lost(0, 15, what), x, 0, 1);
+        });
+    }
+
     private static void rulesRefused() {
         Edges.test(6, "BAD (THE TAPE stays)", () -> {
             Edges.range("from", 0, 29, BAD, () -> typed("c3"), (x, v) -> x.rules(v));
@@ -574,6 +643,17 @@ public final class SayingEdgesTest {
             Edges.dueFraction("3 of 6", (x, what) -> x.rate(0, what), Edges.saying(0, 0, 0, 0, 0, 1, 1, 1, 1), 1, 2);
             Edges.dueFraction("5993 of 6", (x, what) -> x.rate(0, what), Edges.saying(0, 0, 998, 999, 999, 999, 999, 999, 999), 5993, 6);
         });
+        Edges.test(Edges.TERMS, "the mean of what is left", () -> {
+            int[][] means = {{255, 8}, {21, 1}, {15, 1}, {12, 1}};
+            for (int cut = 0; cut <= 3; cut++) {
+                SaidRate x = Edges.ruled("c" + cut);
+                Edges.say(x, 29, 128, 1, 64, 2, 32, 4, 16, 8);
+                Edges.dueFraction("of eight, CUT " + cut, (y, what) -> y.rate(29, what), x, means[cut][0], means[cut][1]);
+            }
+            SaidRate x = Edges.ruled("c3");
+            Edges.say(x, 29, 128, 1, 64, 2, 32, 4, 16, -1);
+            Edges.dueFraction("one is left", (y, what) -> y.rate(29, what), x, 16, 1);
+        });
         Edges.test(Edges.TERMS, "refused ones less 2^40 (BAD: -1099511627777), both of them", () -> {
             SaidRate x = new SaidRate();
             Edges.due("BAD", x.rate(30, 0), -1099511627777L);
@@ -709,8 +789,13 @@ public final class SayingEdgesTest {
             Edges.due("SILENT ones are not among them", x.many(0, 0, 250), 4 + 16);
             Edges.due("SILENT ones are not among them", x.many(0, 0, 500), 4 + 16 + 64);
             SaidRate high = Edges.saying(0, 100, 100, 100, 900, 900);
-            Edges.due("one of high bits ahead of two of low ones", high.many(0, 0, 260), 8);
+            Edges.due("one of high bits ahead of two of low ones", high.many(0, 0, 33), 8);
+            Edges.due("one of high bits ahead of three of low ones", high.many(0, 0, 66), 8);
+            Edges.due("one, and no others of low bits", high.many(0, 0, 260), 8);
             Edges.due("two ahead of three", high.many(0, 0, 300), 9);
+            SaidRate sums = Edges.ruled("c0");
+            Edges.say(sums, 0, 100, 100, 100, 140, 170);
+            Edges.due("two of high bits ahead of three of low ones", sums.many(0, 0, 60), 8 + 16);
             SaidRate all = Edges.ruled("c0");
             Edges.say(all, 0, 999, 999, 999, 999, 999, 999, 999, 999);
             Edges.due("all of them", all.many(0, 0, 999), 255);

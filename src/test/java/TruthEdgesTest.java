@@ -404,6 +404,15 @@ public final class TruthEdgesTest {
             Edges.due("some LENT on another MORNING", x.untrue(0), 0);
             Edges.due("some LENT then", x.untrue(1), 1);
         });
+        Edges.test(26, "Whether a RUN is FALSE: 1, 0.", () -> {
+            SaidRate x = lending(500);
+            x.run(0, 501);
+            x.run(0, 500);
+            Edges.due("FALSE", x.untrue(0), 1);
+            Edges.due("not FALSE", x.untrue(1), 0);
+            x.lent(7, 0, 501);
+            Edges.due("no more, by what was LENT behind it", x.untrue(0), 0);
+        });
         Edges.test(26, "BAD", () -> {
             Edges.range("run", 0, 18, BAD, (x, v) -> x.untrue(v));
             Edges.range("run of 20", 0, 19, BAD, Edges::full, (x, v) -> x.untrue(v));
@@ -428,6 +437,15 @@ public final class TruthEdgesTest {
             Edges.due("0", ends.backed(0), 1 + 64);
             Edges.due("999", ends.backed(1), 2 + 128);
             Edges.due("480 is not OUT", ends.backed(2), 0);
+        });
+        Edges.test(27, "HOUSES by which a RUN is BACKED, as bits.", () -> {
+            SaidRate x = lending(500);
+            x.run(0, 999);
+            Edges.due("none", x.backed(0), 0);
+            for (int house = 0; house < 8; house++) {
+                x.say(house, 0, 999);
+                Edges.due("the first " + (house + 1), x.backed(0), (2 << house) - 1);
+            }
         });
         Edges.test(27, "BAD", () -> {
             Edges.range("run", 0, 18, BAD, (x, v) -> x.backed(v));

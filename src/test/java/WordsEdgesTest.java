@@ -105,6 +105,15 @@ public final class WordsEdgesTest {
             Edges.due("the MORNING ahead", x.crossed(28), 0);
             x.wall(1, 0, false);
             Edges.due("the WALL is away", x.crossed(29), 0);
+            SaidRate apart = Edges.withDesks(0, 0);
+            apart.wall(0, 1, true);
+            for (int i = 0; i < 6; i++) {
+                apart.word(0, 1, i < 3 ? 1 : i - 3, i);
+            }
+            Edges.due("one of six", apart.crossed(0), 1);
+            Edges.due("four of six", apart.crossed(1), 4);
+            Edges.due("one of six", apart.crossed(2), 1);
+            Edges.due("none of six", apart.crossed(3), 0);
         });
         Edges.test(Edges.TERMS, "CROSSED are WALLS by WORDS between such.", () -> {
             SaidRate x = Edges.withDesks(0, 0, 0, 1);
@@ -193,6 +202,10 @@ public final class WordsEdgesTest {
             x.word(3, 4, 0, 999);
             Edges.due("the last MINUTE, behind three early ones", x.way(0, 4, 0), 4);
             Edges.due("from the teller itself", x.way(3, 4, 0), 1);
+            SaidRate twice = told(new int[] {0, 1, 5}, new int[] {0, 1, 9}, new int[] {1, 2, 6});
+            Edges.due("told again later, the first counts", twice.way(0, 2, 0), 2);
+            twice = told(new int[] {0, 1, 9}, new int[] {0, 1, 5}, new int[] {1, 2, 6});
+            Edges.due("told again later, but put ahead", twice.way(0, 2, 0), 2);
         });
         Edges.test(32, "BAD", () -> {
             Edges.range("a", 0, 10, BAD, (x, v) -> x.way(v, 5, 0));
@@ -294,6 +307,16 @@ public final class WordsEdgesTest {
             Edges.due("a RING that others lead to and from", x.ringed(), 32 + 64 + 128);
             x.owe(1, 2, 99);
             Edges.due("two RINGS on one chain", x.ringed(), 2 + 4 + 32 + 64 + 128);
+        });
+        Edges.test(Edges.TERMS, "RINGED are all DESKS in such", () -> {
+            SaidRate x = Edges.twelveDesks();
+            for (int desk = 0; desk < 12; desk += 2) {
+                x.owe(desk, desk + 1, 1);
+                x.owe(desk + 1, desk, 99);
+            }
+            Edges.due("six RINGS of two", x.ringed(), 4095);
+            x.owe(10, 11, 0);
+            Edges.due("five of them", x.ringed(), 1023);
         });
     }
 }
