@@ -717,6 +717,15 @@ public final class SayingEdgesTest {
             Edges.dueFraction("999 that said 999", (y, what) -> y.reach(1, 0, 1, what), x, 1001, 2);
             Edges.due("it stays as it was", x.said(0, 0), 0);
             Edges.dueFraction("THE RATE stays", (y, what) -> y.rate(0, what), x, 1001, 2);
+            SaidRate all = Edges.ruled("c0");
+            Edges.say(all, 29, 101, 202, 303, 404, 505, 606, 707, 808);
+            for (int house = 0; house < 8; house++) {
+                int others = 3636 - 101 * (house + 1);
+                long down = all.reach(house, 29, 0, 0) * 8;
+                Edges.due("down, of eight, HOUSE " + house, down, others * all.reach(house, 29, 0, 1));
+                long up = all.reach(house, 29, 1, 0) * 8;
+                Edges.due("up, of eight, HOUSE " + house, up, (others + 999) * all.reach(house, 29, 1, 1));
+            }
         });
         Edges.test(10, "BAD", () -> {
             Edges.range("house", 0, 7, Edges.BAD_FRACTION, (x, v) -> x.reach(v, 0, 0, 0));

@@ -201,6 +201,16 @@ public final class TruthEdgesTest {
             Edges.dueFraction("the most", (y, what) -> y.lost(0, 29, what), x, 2373624, 1);
             Edges.dueFraction("from whom", (y, what) -> y.lost(1, 29, what), x, -2373624, 1);
             Edges.dueFraction("no CONTRACT", (y, what) -> y.lost(2, 29, what), x, 0, 1);
+            SaidRate like = Edges.withDesks(7, 7, 1);
+            Edges.say(like, 0, 0, 0, 0);
+            for (int house = 0; house < 3; house++) {
+                like.lent(house, 0, 10);
+            }
+            like.contract(0, 2, 0, 5, 0);
+            like.contract(2, 1, 0, 3, 0);
+            Edges.dueFraction("of two DESKS of a HOUSE, one", (y, what) -> y.lost(0, 0, what), like, 50, 1);
+            Edges.dueFraction("of two DESKS of a HOUSE, the other", (y, what) -> y.lost(1, 0, what), like, -30, 1);
+            Edges.dueFraction("of both of them", (y, what) -> y.lost(2, 0, what), like, -20, 1);
         });
         Edges.test(23, "LOST by a DESK on a MORNING (0 without a RATE).", () -> {
             SaidRate x = Edges.withDesks(0, 1);
