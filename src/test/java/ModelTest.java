@@ -15,7 +15,7 @@ public final class ModelTest {
             .filter(m -> java.lang.reflect.Modifier.isPublic(m.getModifiers()))
             .sorted(Comparator.comparing(Method::getName)).toArray(Method[]::new);
         int wrong = 0;
-        for (int run = 0; run < 600 && wrong < 20; run++) {
+        for (int run = 0; run < 1600 && wrong < 20; run++) {
             wrong += compare(run, calls);
         }
         System.out.println(wrong == 0 ? "as the model answers" : wrong + " runs went astray");
@@ -26,7 +26,7 @@ public final class ModelTest {
 
     private static int compare(int run, Method[] calls) throws Exception {
         Random random = new Random(run);
-        Chooser chooser = new Chooser(random);
+        Chooser chooser = new Chooser(random, run % (Chooser.PARTS.length + 1));
         SaidRate x = new SaidRate();
         Model model = new Model();
         StringBuilder told = new StringBuilder();
@@ -49,27 +49,49 @@ public final class ModelTest {
 
     /** Picks calls and arguments so that they meet: few MORNINGS, few numbers, a wrong one now and then. */
     private static final class Chooser {
+        /** Runs that dwell on one part of the document fill it more densely than runs over all of it. */
+        private static final String[] PARTS = {
+            "say say say say said all type rules rules rule rate thrown reach move many many",
+            "desk desk contract contract contract gain gain paid unlike count say say say",
+            "say say say lent lent truth out right lost lean lean run run untrue backed desk contract contract",
+            "desk word word word wall wall crossed knew knew way way way",
+            "desk owe owe owe owe net ringed",
+            "say say say say rules best worst worst",
+            "sheet item item item item item item all said said said drop"};
+
         private final Random random;
+        /** Empty for a run over all parts alike. */
+        private final String[] part;
+        private final int lane;
+        private final boolean smallItems;
         private final int mornings;
         private final int base;
         private final int width;
         private final int wrongOnes;
         private final String[] clauses = {"c0", "c1", "c2", "c3", "l1", "l2", "l8", "s0", "s99", "s5", "c", "l0", "s100", "x", "", " c 2 ", "c1 1",
             " s 09"};
-        private final List<Long> typing = new ArrayList<>();
+        /** What is still to be typed of a text (the number w, how many of its bytes), and the calls behind that. */
+        private final List<Object[]> typing = new ArrayList<>();
         private final List<String> later = new ArrayList<>();
 
-        Chooser(Random random) {
+        Chooser(Random random, int part) {
             this.random = random;
+            this.part = part == PARTS.length ? new String[0] : PARTS[part].split(" ");
+            lane = random.nextInt(3);
+            smallItems = random.nextBoolean();
             mornings = 1 + random.nextInt(random.nextBoolean() ? 3 : 30);
             base = random.nextInt(1000);
             width = 1 + random.nextInt(random.nextBoolean() ? 30 : 1000);
-            wrongOnes = random.nextBoolean() ? 40 : 12;
+            // at 2, two of one call's numbers are often wrong, and the order of refusals is seen
+            wrongOnes = new int[] {40, 12, 40, 2}[random.nextInt(4)];
         }
 
         Method callOf(Method[] calls) {
             String[] often = {"say", "say", "say", "desk", "contract", "lent", "word", "owe", "sheet", "item", "item", "all", "type", "rules"};
             String name = random.nextInt(3) == 0 ? often[random.nextInt(often.length)] : calls[random.nextInt(calls.length)].getName();
+            if (part.length > 0 && random.nextInt(8) != 0) {
+                name = part[random.nextInt(part.length)];
+            }
             if (!typing.isEmpty() || !later.isEmpty()) {
                 name = typing.isEmpty() ? later.remove(0) : "type";
             } else if (name.equals("rules") && random.nextInt(8) != 0) {
@@ -90,16 +112,26 @@ public final class ModelTest {
             for (int i = 0; i < n; i++) {
                 text.append(i == 0 ? "" : ";").append(clauses[random.nextInt(random.nextInt(3) == 0 ? clauses.length : 10)]);
             }
-            for (char c : text.toString().toCharArray()) {
-                typing.add((long) c);
+            if (random.nextInt(3) == 0) {
+                text.insert(random.nextInt(text.length() + 1), "  ;;cls0123456789xC~".charAt(random.nextInt(20)));
             }
-            if (typing.isEmpty()) {
-                typing.add(32L);
+            text.append(text.length() == 0 ? " " : "");
+            for (int at = 0; at < text.length(); ) {
+                int bytes = Math.min(1 + random.nextInt(8), text.length() - at);
+                // bytes above those that are asked for are not looked at, so they may be anything
+                long w = random.nextLong();
+                for (int end = at + bytes; at < end; at++) {
+                    w = w << 8 | text.charAt(at);
+                }
+                typing.add(new Object[] {w, bytes});
             }
             later.add("rules");
         }
 
         Object[] argumentsOf(Method call, Model model) {
+            if (call.getName().equals("type") && !typing.isEmpty()) {
+                return typing.remove(0);
+            }
             Class<?>[] types = call.getParameterTypes();
             Object[] with = new Object[types.length];
             String kinds = kindsOf(call.getName());
@@ -107,13 +139,10 @@ public final class ModelTest {
                 if (types[i] == boolean.class) {
                     with[i] = random.nextBoolean();
                 } else if (types[i] == long.class) {
-                    with[i] = typing.isEmpty() ? 0x2020202020202020L + random.nextInt(95) : typing.remove(0);
+                    with[i] = 0x2020202020202020L + random.nextInt(97);
                 } else {
                     with[i] = random.nextInt(wrongOnes * types.length) == 0 ? wrongOne() : number(kinds.charAt(i), model);
                 }
-            }
-            if (call.getName().equals("type") && !later.isEmpty()) {
-                with[1] = 1;
             }
             return with;
         }
@@ -121,6 +150,15 @@ public final class ModelTest {
         private int wrongOne() {
             int[] edges = {-1, -2, 0, 1, 2, 3, 4, 5, 8, 12, 16, 17, 30, 99, 100, 255, 256, 999, 1000, Integer.MIN_VALUE, Integer.MAX_VALUE};
             return edges[random.nextInt(edges.length)];
+        }
+
+        /** Now and then a number whose higher bits a LANE does not hold. */
+        private int item() {
+            if (random.nextInt(60) == 0) {
+                return random.nextInt();
+            }
+            int v = random.nextInt(smallItems ? 129 : 1001) - 1;
+            return random.nextInt(10) == 0 ? v + (random.nextInt() << 16) : random.nextInt(10) == 0 ? v + (random.nextInt(9) << 8) : v;
         }
 
         private static String kindsOf(String name) {
@@ -167,8 +205,8 @@ public final class ModelTest {
                 case 'm': return random.nextInt(mornings);
                 case 'v': return random.nextInt(15) == 0 ? random.nextInt(1000) : Math.min(999, base + random.nextInt(width));
                 case 's': return random.nextInt(2);
-                case 'l': return random.nextInt(4) == 0 ? random.nextInt(3) : 1;
-                case 'f': return random.nextInt(10);
+                case 'l': return random.nextInt(4) == 0 ? random.nextInt(3) : lane;
+                case 'f': return random.nextInt(random.nextBoolean() ? 2 : 10);
                 case 'g': return 1 + random.nextInt(255);
                 case 't': return 1 + random.nextInt(random.nextBoolean() ? 20 : 999);
                 case 'd': return model.deskHouses.isEmpty() ? 0 : random.nextInt(model.deskHouses.size());
@@ -178,7 +216,7 @@ public final class ModelTest {
                 case 'o': return random.nextInt(3) == 0 ? random.nextInt(100) : 0;
                 case 'n': return random.nextInt(3) == 0 ? random.nextInt(17) : 8 + random.nextInt(9);
                 case 'i': return random.nextInt(12);
-                case 'p': return random.nextInt(8) == 0 ? random.nextInt() : random.nextInt(1001) - 1;
+                case 'p': return item();
                 default: return random.nextInt(kind - '0');
             }
         }
